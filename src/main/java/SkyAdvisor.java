@@ -1,6 +1,8 @@
 /**
  * Watches the tracks of aircraft by whole numbers, tells which two come too near,
  * and advises both how to part in height, each the other way.
+ *
+ * All objects are made in the constructor, since all calls of a run share one room.
  */
 public final class SkyAdvisor {
     public static final int NONE = -1;
@@ -17,7 +19,6 @@ public final class SkyAdvisor {
     private final Aircraft[] fleet;
     private final Pair[] pairs;
 
-    /** No aircraft; settings as at first. */
     public SkyAdvisor() {
         settings = new Settings();
         tally = new Tally();
@@ -35,7 +36,6 @@ public final class SkyAdvisor {
         }
     }
 
-    /** A setting becomes another one; answers what it was. */
     public int set(int which, int v) throws IllegalArgumentException {
         if (!Settings.allows(which, v)) {
             throw new IllegalArgumentException("no such setting, or out of its range");
@@ -43,7 +43,6 @@ public final class SkyAdvisor {
         return settings.exchange(which, v);
     }
 
-    /** An aircraft is there, at a place. */
     public void place(int i, int x, int y, int z) throws IllegalArgumentException {
         if (!isNumber(i) || !Aircraft.isPlace(x, y, z)) {
             throw new IllegalArgumentException("no such number, or place");
@@ -54,7 +53,6 @@ public final class SkyAdvisor {
         restartLeastOf(aircraft);
     }
 
-    /** An aircraft's speed, by seconds. */
     public void speed(int i, int vx, int vy, int vz) throws IllegalArgumentException {
         if (!isThere(i) || !Aircraft.isSpeed(vx, vy, vz)) {
             throw new IllegalArgumentException("not there, or a speed out of its range");
@@ -64,7 +62,6 @@ public final class SkyAdvisor {
         dropAdviceOf(aircraft);
     }
 
-    /** Whether an aircraft follows advice. */
     public void follow(int i, boolean follows) throws IllegalArgumentException {
         if (!isThere(i)) {
             throw new IllegalArgumentException("not there");
@@ -72,7 +69,6 @@ public final class SkyAdvisor {
         fleet[i].follows = follows;
     }
 
-    /** An aircraft is gone. */
     public void leave(int i) throws IllegalArgumentException {
         if (!isThere(i)) {
             throw new IllegalArgumentException("not there");
@@ -82,7 +78,6 @@ public final class SkyAdvisor {
         dropAdviceOf(aircraft);
     }
 
-    /** So many seconds; answers how many pairs have advice then. */
     public int step(int n) throws IllegalArgumentException {
         if (n < 0 || n > MOST_SECONDS_A_STEP) {
             throw new IllegalArgumentException("not 0 to 300 seconds");
@@ -93,7 +88,6 @@ public final class SkyAdvisor {
         return countAdvised();
     }
 
-    /** What is known of one aircraft. */
     public int told(int i, int what) throws IllegalArgumentException {
         if (!isThere(i) || what < 0 || what > LAST_TOLD) {
             throw new IllegalArgumentException("not there, or no such question");
@@ -101,7 +95,6 @@ public final class SkyAdvisor {
         return fleet[i].answer(what);
     }
 
-    /** What is known of two aircraft, told in either order. */
     public int pair(int i, int j, int what) throws IllegalArgumentException {
         if (i == j || !isThere(i) || !isThere(j) || what < 0 || what > LAST_OF_PAIR) {
             throw new IllegalArgumentException("not two that are there, or no such question");
@@ -109,7 +102,6 @@ public final class SkyAdvisor {
         return pairs[pairNumber(Math.min(i, j), Math.max(i, j))].answer(what, i < j);
     }
 
-    /** What was counted over all seconds. */
     public int all(int what) throws IllegalArgumentException {
         if (what < 0 || what > LAST_OF_ALL) {
             throw new IllegalArgumentException("no such question");
@@ -157,6 +149,7 @@ public final class SkyAdvisor {
                 heedAdvice(aircraft);
             }
         }
+        // Heeding advice changes no place, so that the least are the same here as behind the move.
         for (Pair pair : pairs) {
             if (pair.isThere()) {
                 pair.lookAtLeast();
@@ -191,7 +184,6 @@ public final class SkyAdvisor {
         return advised;
     }
 
-    /** The seven settings, by their numbers. */
     private static final class Settings {
         private static final int[] LEAST = {1, 0, 0, 0, 0, 0, 1};
         private static final int[] MOST = {100, 5000, 5000, 2000, 2000, 20, 60};
@@ -242,7 +234,6 @@ public final class SkyAdvisor {
         }
     }
 
-    /** What has happened over all seconds. */
     private static final class Tally {
         int begun;
         int turned;
@@ -290,6 +281,7 @@ public final class SkyAdvisor {
             return isWithin(vx, FASTEST) && isWithin(vy, FASTEST) && isWithin(vz, STEEPEST);
         }
 
+        /** Compared on both sides, since the least int has no absolute value. */
         private static boolean isWithin(int value, int bound) {
             return value >= -bound && value <= bound;
         }
@@ -376,6 +368,7 @@ public final class SkyAdvisor {
      */
     private static final class Pair {
         private static final int STRONGEST = 4;
+        private static final int MOST_DISTANCE_TOLD = 2147483647;
 
         private final Aircraft first;
         private final Aircraft second;
@@ -497,7 +490,7 @@ public final class SkyAdvisor {
                 case 8:
                     return senseFor(chosenSense(timeLeft()), firstTold);
                 case 9:
-                    return (int) Math.min(leastDistance, Integer.MAX_VALUE);
+                    return (int) Math.min(leastDistance, MOST_DISTANCE_TOLD);
                 default:
                     return leastHeight;
             }
@@ -560,6 +553,7 @@ public final class SkyAdvisor {
             return x * u + y * v;
         }
 
+        /** Closing below 0 needs a speed; that it is not 0 is looked at all the same, as a divisor. */
         private int timeLeft() {
             long u = second.vx - first.vx;
             long v = second.vy - first.vy;

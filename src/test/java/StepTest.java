@@ -13,6 +13,8 @@ public final class StepTest {
         staysWhenOtherSenseIsTooWeak();
         staysWhenTimeIsNotAboveDelay();
         endsWhenParting();
+        endsSideBySide();
+        staysWhileClosing();
         Due.end();
     }
 
@@ -159,6 +161,11 @@ public final class StepTest {
         weak.step(1);
         Due.same("turned advice starts from strength 1", Due.adviceOf(weak, 0, 1), "2 2 0 1 149");
         Due.same("a turn is not counted as growth", Due.allOf(weak), "1 1 0 0 2");
+        weak.speed(0, 100, 0, 50);
+        weak.place(0, 1900, 0, 0);
+        weak.step(1);
+        Due.same("new advice is not turned", weak.pair(0, 1, 5), 0);
+        Due.same("all", Due.allOf(weak), "2 1 0 0 3");
     }
 
     private static void staysWhenSenseStillParts() {
@@ -197,5 +204,29 @@ public final class StepTest {
         Due.same("step(1) at 1400", sky.step(1), 0);
         Due.same("all", Due.allOf(sky), "1 0 0 1 4");
         Due.same("advice that ended", Due.adviceOf(sky, 0, 1), "0 0 0 0 0");
+    }
+
+    /** Side by side, closing is 0: that is not below 0, so only the alert keeps the advice. */
+    private static void endsSideBySide() {
+        SkyAdvisor sky = new SkyAdvisor();
+        sky.place(0, 0, 0, 0);
+        sky.place(1, 1000, 0, 0);
+        Due.same("step(2) at NEAR", sky.step(2), 1);
+        sky.set(1, 999);
+        Due.same("step(1) behind NEAR", sky.step(1), 0);
+        Due.same("all", Due.allOf(sky), "1 0 0 1 3");
+    }
+
+    /** Behind NEAR and too late for an alert, but closing: the advice stays. */
+    private static void staysWhileClosing() {
+        SkyAdvisor sky = new SkyAdvisor();
+        sky.place(0, 0, 0, 0);
+        sky.place(1, 3300, 0, 0);
+        sky.speed(1, -100, 0, 0);
+        Due.same("step(1) in time", sky.step(1), 1);
+        sky.set(0, 1);
+        Due.same("step(1) too late", sky.step(1), 1);
+        Due.same("alert", sky.pair(0, 1, 0), 0);
+        Due.same("stood", sky.pair(0, 1, 4), 1);
     }
 }
