@@ -1,13 +1,18 @@
-/**
- * What the tests share: due answers, due refusals, and all that can be asked of an object.
- * Asking for all takes some objects beyond 512 calls, where answers are free by the document;
- * this class answers there as before, and the tests rely on it.
- */
+/** What the tests share: due answers, due refusals, and all that can be asked of an object. */
 final class Due {
-    interface Call {
-        void make();
+    interface Scene {
+        SkyAdvisor make();
     }
 
+    interface Call {
+        void on(SkyAdvisor sky);
+    }
+
+    /** Numbers that no range of the document holds. */
+    static final int[] FAR_OFF = {Integer.MIN_VALUE, Integer.MIN_VALUE + 1, -1000000, 1000000, Integer.MAX_VALUE};
+
+    /** A refused call may leave a mark that shows only when time goes on. */
+    private static final int[] SECONDS_LATER = {0, 1, 2, 20};
     private static final int[] ALLOWED = {30, 1000, 2000, 250, 200, 5, 8};
     private static int wrong = 0;
 
@@ -26,23 +31,35 @@ final class Due {
         }
     }
 
-    /** The call throws IllegalArgumentException itself, no class below it, and changes nothing. */
-    static void refused(String what, SkyAdvisor sky, Call call) {
-        String before = stateOf(sky);
-        String thrown = "nothing";
-        try {
-            call.make();
-        } catch (RuntimeException e) {
-            thrown = e.getClass().getName();
+    /**
+     * The call throws IllegalArgumentException itself, no class below it, and changes nothing:
+     * behind it the object answers all that its twin answers, which never got the call.
+     */
+    static void refused(String what, Scene scene, Call call) {
+        for (int later : SECONDS_LATER) {
+            SkyAdvisor sky = scene.make();
+            SkyAdvisor twin = scene.make();
+            same(what + " throws", thrownBy(sky, call), "java.lang.IllegalArgumentException");
+            if (later > 0) {
+                same("step behind " + what, sky.step(later), twin.step(later));
+            }
+            same("the state " + later + " seconds behind " + what, stateOf(sky), stateOf(twin));
         }
-        same(what + " throws", thrown, "java.lang.IllegalArgumentException");
-        same("the state after " + what, stateOf(sky), before);
     }
 
-    static void settle(SkyAdvisor sky, int... values) {
-        for (int which = 0; which < values.length; which++) {
-            sky.set(which, values[which]);
+    static void refusedEverywhere(String what, Call call) {
+        refused(what + " (no aircraft)", SkyAdvisor::new, call);
+        refused(what + " (some there)", Scenes::busy, call);
+        refused(what + " (all six there)", Scenes::full, call);
+    }
+
+    private static String thrownBy(SkyAdvisor sky, Call call) {
+        try {
+            call.on(sky);
+        } catch (Throwable e) {
+            return e.getClass().getName();
         }
+        return "nothing";
     }
 
     static String toldOf(SkyAdvisor sky, int i) {
@@ -69,6 +86,7 @@ final class Due {
         return text.toString().trim();
     }
 
+    /** Sense, strength, how long it has stood, whether it was turned, by how much they part. */
     static String adviceOf(SkyAdvisor sky, int i, int j) {
         StringBuilder text = new StringBuilder();
         for (int what = 2; what <= 6; what++) {
@@ -85,6 +103,7 @@ final class Due {
         return text.toString().trim();
     }
 
+    /** Settings can only be read by setting them; each is put back at once. */
     static String settingsOf(SkyAdvisor sky) {
         StringBuilder text = new StringBuilder();
         for (int which = 0; which < ALLOWED.length; which++) {
@@ -95,6 +114,7 @@ final class Due {
         return text.toString().trim();
     }
 
+    /** All that can be asked: 397 calls at most, so that one object can be asked it once. */
     static String stateOf(SkyAdvisor sky) {
         StringBuilder text = new StringBuilder(settingsOf(sky));
         for (int i = 0; i < 6; i++) {
