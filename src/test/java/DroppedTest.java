@@ -47,7 +47,7 @@ public final class DroppedTest {
     /** Even with the speed that it has. */
     private static void speedEndsItsPairsAlone(int i) {
         SkyAdvisor sky = Scenes.full();
-        sky.speed(i, 0, 0, 0);
+        sky.speed(i, sky.told(i, 3), sky.told(i, 4), sky.told(i, 5));
         checkDropped("speed of " + i, sky, i);
         checkOthers("speed of " + i, sky, i);
     }

@@ -46,11 +46,11 @@ public final class NewObjectTest {
     private static void sharesNothingWithAnother() {
         SkyAdvisor one = new SkyAdvisor();
         SkyAdvisor other = new SkyAdvisor();
-        String before = Due.stateOf(new SkyAdvisor());
+        String before = Due.stateOf(new SkyAdvisor(), SkyAdvisor::new);
         one.set(0, 7);
         Scenes.addNear(one, 1, 2);
         one.step(4);
-        Due.same("the state of an object made before", Due.stateOf(other), before);
-        Due.same("the state of an object made later", Due.stateOf(new SkyAdvisor()), before);
+        Due.same("the state of an object made before", Due.stateOf(other, SkyAdvisor::new), before);
+        Due.same("the state of an object made later", Due.stateOf(new SkyAdvisor(), SkyAdvisor::new), before);
     }
 }

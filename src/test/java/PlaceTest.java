@@ -98,7 +98,7 @@ public final class PlaceTest {
     private static void replacesOneOfSix() {
         SkyAdvisor sky = Scenes.full();
         sky.place(5, 1, 2, 3);
-        Due.same("told of the sixth placed anew", Due.toldOf(sky, 5), "1 2 3 0 0 0 1");
+        Due.same("told of the sixth placed anew", Due.toldOf(sky, 5), "1 2 3 15 -10 5 1");
         Due.same("pairs with advice", sky.step(0), 10);
         sky.place(0, 4, 5, 6);
         Due.same("told of the first placed anew", Due.toldOf(sky, 0), "4 5 6 0 0 0 1");

@@ -45,7 +45,7 @@ final class Scenes {
 
     /**
      * Advice 0 1 was turned, 2 3 grew stronger, 2 4 ended; then 4 left, and 5 never came.
-     * Settings are not those at first, least distances and heights not those of now.
+     * Settings are not those at first.
      */
     static SkyAdvisor busy() {
         SkyAdvisor sky = withSettings(100, 1000, 2000, 2000, 197, 0, 8);
@@ -69,11 +69,15 @@ final class Scenes {
         return sky;
     }
 
-    /** All six near one another, one above the other, and all 15 pairs with advice. */
+    /**
+     * All six near one another, one above the other, and all 15 pairs with advice. They fly slowly
+     * apart, so that the least distances and heights are not those of now.
+     */
     static SkyAdvisor full() {
         SkyAdvisor sky = new SkyAdvisor();
         for (int i = 0; i < 6; i++) {
             sky.place(i, 10 * i, -10 * i, 40 * i);
+            sky.speed(i, 3 * i, -2 * i, i);
         }
         sky.step(3);
         return sky;

@@ -12,6 +12,7 @@ public final class ScenesTest {
         SkyAdvisor full = Scenes.full();
         Due.same("step(0)", full.step(0), 15);
         Due.same("all", Due.allOf(full), "15 0 0 0 3");
+        Due.same("the first and the last", Due.pairOf(full, 0, 5), "1 0 2 1 2 0 215 215 2 5000 200");
         Due.end();
     }
 }

@@ -17,7 +17,7 @@ public final class StepTest {
             SkyAdvisor sky = scenes[k].make();
             Due.same("step(0)", sky.step(0), advised[k]);
             Due.same("step(0) again", sky.step(0), advised[k]);
-            Due.same("the state behind step(0)", Due.stateOf(sky), Due.stateOf(scenes[k].make()));
+            Due.same("the state behind step(0)", Due.stateOf(sky, scenes[k]), Due.stateOf(scenes[k].make(), scenes[k]));
         }
     }
 
@@ -47,7 +47,7 @@ public final class StepTest {
             oneByOne.step(1);
             oneByOne.step(0);
         }
-        Due.same("the state behind 40 seconds", Due.stateOf(oneByOne), Due.stateOf(atOnce));
+        Due.same("the state behind 40 seconds", Due.stateOf(oneByOne, Scenes::full), Due.stateOf(atOnce, Scenes::full));
     }
 
     private static void answersHowManyPairsHaveAdvice() {
