@@ -11,6 +11,7 @@ public final class LongRunsTest {
     private long seed;
     private int calls = 0;
     private boolean onlyTimeIsSet = false;
+    private boolean isWide = false;
     private final String name;
     private final SkyAdvisor sky = new SkyAdvisor();
     private final PlainReading reading = new PlainReading();
@@ -24,7 +25,7 @@ public final class LongRunsTest {
         int[] seen = new int[5];
         for (int run = 0; run < RUNS; run++) {
             LongRunsTest test = new LongRunsTest(run);
-            test.go(run % 2 == 1);
+            test.go(run % 3);
             for (int what = 0; what < 5; what++) {
                 seen[what] += test.reading.all[what];
             }
@@ -35,10 +36,11 @@ public final class LongRunsTest {
         Due.end();
     }
 
-    private void go(boolean turnsAreLikely) {
-        if (turnsAreLikely) {
+    private void go(int kind) {
+        if (kind == 1) {
             makeTurnsLikely();
         }
+        isWide = kind == 2;
         int enough = number(1, MOST_CALLS - CALLS_TO_COMPARE - CALLS_OF_A_CHANGE);
         while (calls < enough) {
             change();
@@ -55,9 +57,15 @@ public final class LongRunsTest {
 
     private void change() {
         int i = number(0, 5);
-        int kind = number(0, 15);
+        int kind = number(0, 19);
         if (!reading.there[i] || kind == 0) {
             placeOne(i);
+            sendOne(i);
+            if (number(0, 3) == 0) {
+                followOne(i, false);
+            }
+        } else if (kind >= 16) {
+            changeOneAlone(i, kind);
         } else if (kind <= 2) {
             int which = onlyTimeIsSet ? 0 : number(0, 6);
             setOne(which, number(LEAST[which], number(LEAST[which], MOST[which])));
@@ -95,22 +103,74 @@ public final class LongRunsTest {
         reading.follows[i] = follows;
     }
 
-    /** Most are sent roughly towards the middle, so that they meet. */
+    /** A new place keeps the speed, a new speed the place; a refused call keeps all. */
+    private void changeOneAlone(int i, int kind) {
+        if (kind == 16 && number(0, 1) == 0) {
+            placeOne(i);
+        } else if (kind == 17 && number(0, 1) == 0) {
+            sendOne(i);
+        } else {
+            refuseOne(i);
+        }
+    }
+
+    private void refuseOne(int i) {
+        calls++;
+        boolean refused = false;
+        try {
+            callWrongly(i, number(0, 8));
+        } catch (IllegalArgumentException e) {
+            refused = true;
+        }
+        Due.same(name + "a wrong call is refused", refused ? 1 : 0, 1);
+    }
+
+    private void callWrongly(int i, int kind) {
+        int which = number(0, 6);
+        switch (kind) {
+            case 0 -> sky.set(which, MOST[which] + 1);
+            case 1 -> sky.set(which, LEAST[which] - 1);
+            case 2 -> sky.place(i, 0, 0, 20001);
+            case 3 -> sky.speed(i, 0, 0, -61);
+            case 4 -> sky.leave(6);
+            case 5 -> sky.follow(SkyAdvisor.NONE, false);
+            case 6 -> sky.step(301);
+            case 7 -> sky.pair(i, i, 2);
+            default -> sky.told(i, 7);
+        }
+    }
+
     private void placeOne(int i) {
-        int x = number(-6000, 6000);
-        int y = number(-6000, 6000);
+        calls++;
+        int x = isWide ? wide(200000) : number(-6000, 6000);
+        int y = isWide ? wide(200000) : number(-6000, 6000);
         int z = number(0, 9) == 0 ? number(19500, 20000) : number(-600, 600);
         sky.place(i, x, y, z);
         reading.place(i, x, y, z);
-        int vx = Math.max(-500, Math.min(500, -x / 20 + number(-60, 60)));
-        int vy = Math.max(-500, Math.min(500, -y / 20 + number(-60, 60)));
+    }
+
+    /** Most are sent roughly towards the middle, so that they meet. */
+    private void sendOne(int i) {
+        calls++;
+        int vx = isWide ? wide(500) : towardsMiddle(reading.place[i][0]);
+        int vy = isWide ? wide(500) : towardsMiddle(reading.place[i][1]);
         int vz = number(-60, 60);
         sky.speed(i, vx, vy, vz);
         reading.speed(i, vx, vy, vz);
-        calls += 2;
-        if (number(0, 3) == 0) {
-            followOne(i, false);
+    }
+
+    private int towardsMiddle(long at) {
+        return (int) Math.max(-500, Math.min(500, -at / 20 + number(-60, 60)));
+    }
+
+    /** Mostly close to one of the bounds, so that sums and squares are as great as they get. */
+    private int wide(int bound) {
+        int kind = number(0, 4);
+        if (kind == 0) {
+            return number(-bound, bound);
         }
+        int off = number(0, bound / 50);
+        return kind == 1 ? -bound + off : bound - off;
     }
 
     private void compare() {
